@@ -16,6 +16,7 @@ public final class BuildTest {
         promise10Spare();
         promise11Finish();
         promise12Stop();
+        promise12StopReachesTheFirstAndTheLastPage();
         promise13Remove();
         promise13RemovedPagesAreNewAgain();
         refusedCallsChangeNothing();
@@ -270,6 +271,22 @@ public final class BuildTest {
         x.space(19);
         DUE.same("stop a space that is built", x.stop(19), 0);
         DUE.same("state", x.told(19, 2), 2);
+    }
+
+    private static void promise12StopReachesTheFirstAndTheLastPage() {
+        PageMonitor x = new PageMonitor();
+        Bench.fill(x, 7, Bench.op(1, 0, 0, 1));
+        x.space(5);
+        x.table(6, 5, 0);
+        x.data(7, 5, 0, 4, 7);
+        x.thread(0, 5, 0);
+        x.thread(19, 5, 0);
+        x.finish(5);
+        DUE.same("enter", x.enter(0, 0, 0, 1), 8);
+        DUE.same("enter", x.enter(19, 0, 0, 1), 8);
+        x.stop(5);
+        DUE.same("thread 0", x.told(0, 2), 0);
+        DUE.same("thread 19", x.told(19, 2), 0);
     }
 
     private static void promise13Remove() {

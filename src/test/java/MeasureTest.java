@@ -14,6 +14,7 @@ public final class MeasureTest {
         wordsOfTheMeasure();
         vouching();
         vouchingOverlaps();
+        buildingBehindAVoucher();
         vouchingFaults();
         comparing();
         comparingFaults();
@@ -212,6 +213,17 @@ public final class MeasureTest {
         }
         DUE.same("the word before", x.peek(2, 4), 16);
         DUE.same("the word behind", x.peek(2, 13), 169);
+    }
+
+    /** What a voucher leaves behind in the object's rows is not told of the next space. */
+    private static void buildingBehindAVoucher() {
+        PageMonitor x = voucher(KEY);
+        DUE.same("enter", x.enter(2, 16, 48, 2), 0);
+        x.space(10);
+        x.thread(11, 10, 7);
+        DUE.same("enter", x.enter(2, 16, 48, 2), 0);
+        x.finish(10);
+        measured(x, 10, Bench.rows(Bench.row(1, 7), Bench.row(4)));
     }
 
     private static void vouchingFaults() {

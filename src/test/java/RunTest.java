@@ -315,7 +315,8 @@ public final class RunTest {
         PageMonitor x = Bench.building(code);
         Bench.fill(x, 0, 5, 5, 5, 5, 5, 5, 5, 5, 5, 5, 5, 5, 5, 5, 5, 5);
         x.data(4, 0, 1, 3, 0);
-        x.share(0, 2, 3, 1);
+        x.share(0, 2, 3, 0);
+        x.share(0, 3, 1, 7);
         x.spare(5, 0);
         x.spare(19, 0);
         x.space(10);
@@ -351,7 +352,7 @@ public final class RunTest {
     private static void spareIsRefused() {
         int[][] pagesAndBlocks = {
             {-1, 7}, {20, 7}, {LOWEST, 7}, {HIGHEST, 7}, {0, 7}, {1, 7}, {2, 7}, {3, 7}, {4, 7}, {10, 7},
-            {11, 7}, {12, 7}, {5, -1}, {5, 32}, {5, LOWEST}, {5, HIGHEST}, {5, 8}, {5, 31}, {5, 0}, {5, 1}, {5, 2},
+            {11, 7}, {12, 7}, {5, -1}, {5, 32}, {5, LOWEST}, {5, HIGHEST}, {5, 8}, {5, 31}, {5, 0}, {5, 1}, {5, 2}, {5, 3},
         };
         PageMonitor x = withSpares(Bench.op(12, 0, 1, 7), LEAVE);
         for (int[] w : pagesAndBlocks) {
@@ -370,7 +371,7 @@ public final class RunTest {
 
     private static void dataBecomesSpare() {
         PageMonitor x = withSpares(Bench.op(13, 0, 1, 0), LEAVE);
-        for (int block : new int[] {-1, 32, LOWEST, HIGHEST, 2, 3, 7, 8, 31}) {
+        for (int block : new int[] {-1, 32, LOWEST, HIGHEST, 2, 3, 4, 7, 8, 31}) {
             ran(x, "no data at block " + block, x.enter(2, 0, block, 9), 0, -1, 2);
         }
         ran(x, "data at block 1", x.enter(2, 0, 1, 9), 0, 4, 2);

@@ -49,6 +49,9 @@ public final class ToldTest {
         x.remove(18);
         all(x, 6, 1, -1, 0, 3);
         all(x, 18, 0, -1, 0, 0);
+        x.spare(0, 6);
+        all(x, 6, 1, -1, 0, 4);
+        all(x, 0, 5, 6, 0, 0);
     }
 
     private static void wrongPagesAndWhats() {
