@@ -12,7 +12,16 @@ final class Bench {
     /** The frame that the code is told in, and 0 again afterwards. */
     static final int CODE_FRAME = 7;
 
+    static final int LOWEST = Integer.MIN_VALUE;
+    static final int HIGHEST = Integer.MAX_VALUE;
+    static final int LEAVE = op(0, 0, 0, 0);
+
     private Bench() {
+    }
+
+    /** What lies outside 0 to most: the two next to the range, and the two furthest from it. */
+    static int[] outside(int most) {
+        return new int[] {-1, most + 1, LOWEST, HIGHEST};
     }
 
     static int op(int op, int a, int b, int i) {
@@ -41,6 +50,31 @@ final class Bench {
         PageMonitor x = building(code);
         x.finish(SPACE);
         return x;
+    }
+
+    /** A page of data with these words; frame 7 is 0 again afterwards. */
+    static int data(PageMonitor x, int page, int space, int block, int rights, int... words) {
+        fill(x, CODE_FRAME, words);
+        int answer = x.data(page, space, block, rights, CODE_FRAME);
+        fill(x, CODE_FRAME);
+        return answer;
+    }
+
+    static int[] frame(PageMonitor x, int frame) {
+        int[] words = new int[16];
+        for (int i = 0; i < 16; i++) {
+            words[i] = x.peek(frame, i);
+        }
+        return words;
+    }
+
+    /** Eight words of a frame from one on. */
+    static int[] eight(PageMonitor x, int frame, int from) {
+        int[] words = new int[8];
+        for (int i = 0; i < 8; i++) {
+            words[i] = x.peek(frame, from + i);
+        }
+        return words;
     }
 
     /** Rows of up to sixteen words, filled up with 0, as one text of words. */

@@ -1,41 +1,132 @@
-/** Promise 19, and what is hashed: the measure, and vouchers by instructions 9, 10 and 11. */
+/**
+ * Promise 19: measure; with what the terms say of the hash and of what is told, against the Java
+ * library's SHA-256. Each comment names the promise and, between quotes, the words of the document.
+ */
 public final class MeasureTest {
     private static final Due DUE = new Due("MeasureTest");
-    private static final int LEAVE = Bench.op(0, 0, 0, 0);
-    private static final int[] KEY = {7, -7, 77, -77, 777, 0, Integer.MIN_VALUE, -1};
+    private static final Class<IndexOutOfBoundsException> OUTSIDE = IndexOutOfBoundsException.class;
+    private static final Class<IllegalStateException> NOT_MEASURED = IllegalStateException.class;
 
     public static void main(String[] args) {
-        promise19EmptySpace();
-        promise19AllThatIsTold();
-        promise19OrderCounts();
-        promise19LongBuilding();
-        promise19Refusals();
-        promise19StaysWhenStopped();
-        wordsOfTheMeasure();
-        vouching();
-        vouchingOverlaps();
-        buildingBehindAVoucher();
-        vouchingFaults();
-        comparing();
-        comparingFaults();
+        emptySpace();
+        threads();
+        data();
+        wordsOfData();
+        frames();
+        tablesAndSparesAreNotTold();
+        allThatIsTold();
+        orderCounts();
+        longestBuilding();
+        everyLength();
+        manyThreads();
+        refusedCallsAreNotTold();
+        framesChangeBehind();
+        twoSpacesAtOnce();
+        pagesDoNotCount();
+        staysWhenRunAndStopped();
+        noSuchPageOrWord();
+        noSpace();
+        notFinished();
+        whichComesFirst();
         DUE.end();
     }
 
-    private static void measured(PageMonitor x, int space, int... words) {
-        int[] want = Bench.hash(words);
-        for (int i = 0; i < 8; i++) {
-            DUE.same("measure(" + space + ", " + i + ")", x.measure(space, i), want[i]);
+    private static void measured(String call, PageMonitor x, int space, int[]... rows) {
+        DUE.words(call, Bench.measureOf(x, space), Bench.hash(Bench.rows(rows)));
+    }
+
+    private static PageMonitor withTables() {
+        PageMonitor x = new PageMonitor();
+        x.space(0);
+        for (int place = 0; place < 4; place++) {
+            x.table(1 + place, 0, place);
+        }
+        return x;
+    }
+
+    /** Promise 19: "when it is finished 4": the least that is told, of a space that has nothing. */
+    private static void emptySpace() {
+        for (int space : new int[] {0, 19}) {
+            PageMonitor x = new PageMonitor();
+            x.space(space);
+            x.finish(space);
+            measured("an empty space", x, space, Bench.row(4));
+        }
+        PageMonitor x = new PageMonitor();
+        x.space(7);
+        x.finish(7);
+        // SHA-256 of these sixty-four bytes by another program than Java's library
+        DUE.words("an empty space", Bench.measureOf(x, 7), new int[] {
+            -253478100, 1206795508, -2040746074, -1035965267,
+            -280200476, 1638563794, 1017063759, -2001977821,
+        });
+    }
+
+    /** Promise 19: "for a thread 1 and its entry". The first entry, the last and some between. */
+    private static void threads() {
+        for (int entry : new int[] {0, 1, 15, 16, 255, 256, 510, 511}) {
+            PageMonitor x = new PageMonitor();
+            x.space(0);
+            x.thread(1, 0, entry);
+            x.finish(0);
+            measured("a thread with entry " + entry, x, 0, Bench.row(1, entry), Bench.row(4));
         }
     }
 
-    private static void promise19EmptySpace() {
-        PageMonitor x = new PageMonitor();
-        x.space(19);
-        x.finish(19);
-        measured(x, 19, Bench.rows(Bench.row(4)));
+    /** Promise 19: "for data 2, block and rights, then its sixteen words behind that". Blocks and rights. */
+    private static void data() {
+        for (int block = 0; block < 32; block++) {
+            int rights = 1 + block % 7;
+            PageMonitor x = withTables();
+            x.data(5, 0, block, rights, 0);
+            x.finish(0);
+            measured("data at block " + block, x, 0, Bench.row(2, block, rights), Bench.row(), Bench.row(4));
+        }
     }
 
-    private static void promise19AllThatIsTold() {
+    /** Promise 19: "then its sixteen words behind that": each of them; "the highest of each word first". */
+    private static void wordsOfData() {
+        for (int i = 0; i < 16; i++) {
+            for (int v : new int[] {1, -1, 0x01020304, Bench.LOWEST, Bench.HIGHEST}) {
+                PageMonitor x = withTables();
+                x.poke(7, i, v);
+                x.data(5, 0, 31, 7, 7);
+                x.finish(0);
+                int[] words = new int[16];
+                words[i] = v;
+                measured("word " + i + " is " + v, x, 0, Bench.row(2, 31, 7), words, Bench.row(4));
+            }
+        }
+    }
+
+    /** Promise 19: "for a frame that is shared 3, block, rights": neither its number nor its words. */
+    private static void frames() {
+        for (int block = 0; block < 32; block++) {
+            for (int rights = 1; rights <= 3; rights += 2) {
+                PageMonitor x = withTables();
+                x.poke(block % 8, 5, 77);
+                x.share(0, block, rights, block % 8);
+                x.finish(0);
+                measured("a frame at block " + block, x, 0, Bench.row(3, block, rights), Bench.row(4));
+            }
+        }
+    }
+
+    /** Promise 19: "THE MEASURE is the hash of what is told": tables and spare pages are not. */
+    private static void tablesAndSparesAreNotTold() {
+        PageMonitor x = withTables();
+        x.spare(5, 0);
+        x.spare(6, 0);
+        x.remove(5);
+        x.finish(0);
+        measured("tables and spare pages", x, 0, Bench.row(4));
+        x.spare(5, 0);
+        x.remove(6);
+        measured("spare pages behind finish()", x, 0, Bench.row(4));
+    }
+
+    /** Promise 19: "THE MEASURE is the hash of what is told of its building, in that order". */
+    private static void allThatIsTold() {
         PageMonitor x = new PageMonitor();
         x.space(3);
         x.thread(4, 3, 511);
@@ -53,14 +144,12 @@ public final class MeasureTest {
         x.remove(7);
         x.poke(6, 0, 1);
         x.finish(3);
-        measured(x, 3, Bench.rows(Bench.row(1, 511), Bench.row(2, 24, 7), words, Bench.row(3, 31, 3),
-            Bench.row(3, 30, 1), Bench.row(1, 0), Bench.row(4)));
-        x.spare(7, 3);
-        measured(x, 3, Bench.rows(Bench.row(1, 511), Bench.row(2, 24, 7), words, Bench.row(3, 31, 3),
-            Bench.row(3, 30, 1), Bench.row(1, 0), Bench.row(4)));
+        measured("all that is told", x, 3, Bench.row(1, 511), Bench.row(2, 24, 7), words, Bench.row(3, 31, 3),
+            Bench.row(3, 30, 1), Bench.row(1, 0), Bench.row(4));
     }
 
-    private static void promise19OrderCounts() {
+    /** Promise 19: "in that order, sixteen words each, those that are not told 0". */
+    private static void orderCounts() {
         PageMonitor x = new PageMonitor();
         x.space(0);
         x.space(1);
@@ -70,19 +159,15 @@ public final class MeasureTest {
         x.thread(5, 1, 5);
         x.finish(1);
         x.finish(0);
-        measured(x, 0, Bench.rows(Bench.row(1, 5), Bench.row(1, 6), Bench.row(4)));
-        measured(x, 1, Bench.rows(Bench.row(1, 6), Bench.row(1, 5), Bench.row(4)));
+        measured("5, then 6", x, 0, Bench.row(1, 5), Bench.row(1, 6), Bench.row(4));
+        measured("6, then 5", x, 1, Bench.row(1, 6), Bench.row(1, 5), Bench.row(4));
     }
 
-    /** As much as can be told of one space: four tables, fifteen pages of data, seventeen frames. */
-    private static void promise19LongBuilding() {
-        PageMonitor x = new PageMonitor();
-        x.space(0);
+    /** Promise 19: "in that order": the longest building, of fifteen pages of data and seventeen frames. */
+    private static void longestBuilding() {
+        PageMonitor x = withTables();
         int[][] rows = new int[15 * 2 + 17 + 1][];
         int told = 0;
-        for (int place = 0; place < 4; place++) {
-            x.table(1 + place, 0, place);
-        }
         for (int k = 0; k < 15; k++) {
             x.poke(0, k, -k);
             DUE.same("data", x.data(5 + k, 0, 31 - k, 1 + k % 7, 0), 0);
@@ -97,220 +182,200 @@ public final class MeasureTest {
             DUE.same("share", x.share(0, block, 1, block % 8), 0);
             rows[told++] = Bench.row(3, block, 1);
         }
+        DUE.same("no block is left", x.share(0, 17, 1, 0), 5);
         rows[told] = Bench.row(4);
         x.finish(0);
-        measured(x, 0, Bench.rows(rows));
+        measured("the longest building", x, 0, rows);
     }
 
-    private static void promise19Refusals() {
-        PageMonitor x = Bench.building();
-        Class<IndexOutOfBoundsException> outside = IndexOutOfBoundsException.class;
-        Class<IllegalStateException> notMeasured = IllegalStateException.class;
-        for (int w : new int[] {-1, Integer.MIN_VALUE, Integer.MAX_VALUE}) {
-            DUE.thrown("measure(" + w + ", 0)", outside, () -> x.measure(w, 0));
-            DUE.thrown("measure(0, " + w + ")", outside, () -> x.measure(0, w));
+    /** Promise 19: "(with its padding: a bit 1, zeros, the length in bits in 64)", from one row to 33. */
+    private static void everyLength() {
+        for (int shared = 0; shared <= 32; shared++) {
+            PageMonitor x = withTables();
+            int[][] rows = new int[shared + 1][];
+            for (int block = 0; block < shared; block++) {
+                x.share(0, block, 3, 0);
+                rows[block] = Bench.row(3, block, 3);
+            }
+            rows[shared] = Bench.row(4);
+            x.finish(0);
+            measured(shared + " frames", x, 0, rows);
         }
-        DUE.thrown("measure(20, 0)", outside, () -> x.measure(20, 0));
-        DUE.thrown("measure(0, 8)", outside, () -> x.measure(0, 8));
-        DUE.thrown("of no space, no such word", outside, () -> x.measure(9, 8));
-        for (int page = 0; page < 6; page++) {
-            int p = page;
-            DUE.thrown("measure(" + page + ", 0)", notMeasured, () -> x.measure(p, 0));
+    }
+
+    /** Promise 19: "for a thread 1 and its entry": as many threads as there are pages for. */
+    private static void manyThreads() {
+        PageMonitor x = new PageMonitor();
+        x.space(10);
+        int[][] rows = new int[20][];
+        int told = 0;
+        for (int page = 0; page < 20; page++) {
+            if (page != 10) {
+                x.thread(page, 10, 511 - page);
+                rows[told++] = Bench.row(1, 511 - page);
+            }
+        }
+        rows[told] = Bench.row(4);
+        x.finish(10);
+        measured("nineteen threads", x, 10, rows);
+    }
+
+    /** Promise 19: a refused call tells nothing: "else the least that holds, and change nothing then". */
+    private static void refusedCallsAreNotTold() {
+        PageMonitor x = withTables();
+        x.thread(5, 0, 512);
+        x.thread(0, 0, 1);
+        x.thread(5, 6, 1);
+        x.data(5, 0, 32, 1, 0);
+        x.data(5, 0, 0, 8, 0);
+        x.data(5, 0, 0, 1, 8);
+        x.data(1, 0, 0, 1, 0);
+        x.share(0, 32, 1, 0);
+        x.share(0, 0, 2, 0);
+        x.share(0, 0, 1, 8);
+        x.table(5, 0, 0);
+        x.share(0, 9, 1, 0);
+        x.share(0, 9, 3, 0);
+        x.data(5, 0, 9, 1, 0);
+        x.finish(1);
+        x.finish(0);
+        x.thread(5, 0, 1);
+        x.data(5, 0, 0, 1, 0);
+        x.share(0, 0, 1, 0);
+        x.finish(0);
+        measured("one frame and many refused calls", x, 0, Bench.row(3, 9, 1), Bench.row(4));
+    }
+
+    /** Promise 19: "then its sixteen words": those that the frame had when data() was called. */
+    private static void framesChangeBehind() {
+        PageMonitor x = withTables();
+        x.poke(0, 0, 5);
+        x.data(5, 0, 0, 7, 0);
+        x.poke(0, 0, 6);
+        x.finish(0);
+        x.poke(0, 0, 7);
+        measured("a frame that changes later", x, 0, Bench.row(2, 0, 7), Bench.row(5), Bench.row(4));
+    }
+
+    /** Promise 19: "what is told of its building": two spaces built in turns don't mix. */
+    private static void twoSpacesAtOnce() {
+        PageMonitor x = new PageMonitor();
+        x.space(0);
+        x.space(19);
+        for (int k = 1; k < 9; k++) {
+            x.thread(k, 0, k);
+            x.thread(k + 9, 19, 100 + k);
         }
         x.finish(0);
-        for (int page = 1; page < 6; page++) {
-            int p = page;
-            DUE.thrown("measure(" + page + ", 7)", notMeasured, () -> x.measure(p, 7));
+        x.thread(18, 19, 7);
+        x.finish(19);
+        int[][] one = new int[9][];
+        int[][] other = new int[10][];
+        for (int k = 1; k < 9; k++) {
+            one[k - 1] = Bench.row(1, k);
+            other[k - 1] = Bench.row(1, 100 + k);
         }
-        x.space(8);
-        x.stop(8);
-        DUE.thrown("stopped before it was finished", notMeasured, () -> x.measure(8, 0));
+        one[8] = Bench.row(4);
+        other[8] = Bench.row(1, 7);
+        other[9] = Bench.row(4);
+        measured("the one", x, 0, one);
+        measured("the other", x, 19, other);
     }
 
-    private static void promise19StaysWhenStopped() {
-        PageMonitor x = Bench.ready(LEAVE);
+    /** Promise 19: "THE MEASURE is the hash of what is told of its building": numbers of pages are not. */
+    private static void pagesDoNotCount() {
+        PageMonitor x = new PageMonitor();
+        x.key(3, 3);
+        for (int space : new int[] {0, 10}) {
+            x.space(space);
+            x.thread(space + (space == 0 ? 9 : 1), space, 8);
+            x.table(space + 2, space, 1);
+            x.data(space + (space == 0 ? 8 : 3), space, 8, 5, space / 2);
+            x.finish(space);
+        }
+        DUE.words("spaces that are built alike", Bench.measureOf(x, 0), Bench.measureOf(x, 10));
+    }
+
+    /** Promise 19: "Word i of a finished or stopped space's measure.": it stays what it was. */
+    private static void staysWhenRunAndStopped() {
+        PageMonitor x = Bench.ready(Bench.LEAVE);
         int[] before = Bench.measureOf(x, 0);
         x.enter(2, 0, 0, 1);
+        DUE.words("behind enter()", Bench.measureOf(x, 0), before);
         x.stop(0);
+        DUE.words("of a stopped space", Bench.measureOf(x, 0), before);
         x.remove(1);
         x.remove(2);
         x.remove(3);
-        for (int i = 0; i < 8; i++) {
-            DUE.same("measure of a stopped space", x.measure(0, i), before[i]);
-        }
-        x.remove(0);
-        DUE.thrown("of a space that was removed", IllegalStateException.class, () -> x.measure(0, 0));
-        PageMonitor y = Bench.ready(LEAVE);
-        y.key(0, 0);
-        DUE.thrown("behind key", IllegalStateException.class, () -> y.measure(0, 0));
-        y.space(0);
-        y.stop(0);
-        DUE.thrown("a space made anew, stopped", IllegalStateException.class, () -> y.measure(0, 0));
+        DUE.words("of a stopped space without pages", Bench.measureOf(x, 0), before);
+        DUE.words("the measure", before,
+            Bench.hash(Bench.rows(Bench.row(1, 0), Bench.row(2, 0, 4), Bench.row(), Bench.row(4))));
     }
 
-    private static void wordsOfTheMeasure() {
-        for (int i : new int[] {0, 1, 2, 3, 4, 5, 6, 7, 8, 13, -1, -8}) {
-            PageMonitor x = Bench.ready(Bench.op(11, 0, 0, i), LEAVE);
-            DUE.same("enter", x.enter(2, 0, 0, 2), 0);
-            DUE.same("op 11 with i " + i, x.result(), x.measure(0, i & 7));
-        }
-    }
-
-    /** Vouches from ra to rb: data to read at block 1, frame 1 to read at 2, frame 2 to write at 3. */
-    private static PageMonitor voucher(int[] key) {
+    /** Promise 19: "IndexOutOfBoundsException: there is no such page, or word." */
+    private static void noSuchPageOrWord() {
         PageMonitor x = new PageMonitor();
-        for (int i = 0; i < 8; i++) {
-            x.key(i, key[i]);
-        }
-        Bench.fill(x, 7, Bench.op(9, 0, 1, 0), LEAVE);
         x.space(0);
-        x.table(1, 0, 0);
-        x.thread(2, 0, 0);
-        x.data(3, 0, 0, 4, 7);
-        Bench.fill(x, 0, 21, 22, 23, 24, 25, 26, 27, 28, 29, 30, 31, 32, 33, 34, 35, 36);
-        x.data(4, 0, 1, 1, 0);
-        x.share(0, 2, 1, 1);
-        x.share(0, 3, 3, 2);
-        x.data(5, 0, 4, 2, 0);
         x.finish(0);
-        return x;
+        x.space(19);
+        x.finish(19);
+        for (int page : Bench.outside(19)) {
+            DUE.thrown("measure(" + page + ", 0)", OUTSIDE, () -> x.measure(page, 0));
+            DUE.thrown("measure(" + page + ", 7)", OUTSIDE, () -> x.measure(page, 7));
+        }
+        for (int i : Bench.outside(7)) {
+            DUE.thrown("measure(0, " + i + ")", OUTSIDE, () -> x.measure(0, i));
+            DUE.thrown("measure(19, " + i + ")", OUTSIDE, () -> x.measure(19, i));
+        }
+        int[] due = Bench.hash(Bench.rows(Bench.row(4)));
+        DUE.same("measure(0, 0)", x.measure(0, 0), due[0]);
+        DUE.same("measure(19, 7)", x.measure(19, 7), due[7]);
     }
 
-    private static void vouching() {
-        PageMonitor x = voucher(KEY);
-        for (int from = 16; from <= 24; from++) {
-            int[] said = new int[8];
-            for (int k = 0; k < 8; k++) {
-                said[k] = 5 + from + k;
-            }
-            DUE.same("enter", x.enter(2, from, 52, 2), 0);
-            DUE.same("it goes on", x.result(), from);
-            int[] want = Bench.voucher(KEY, Bench.measureOf(x, 0), said);
-            for (int k = 0; k < 8; k++) {
-                DUE.same("voucher word " + k, x.peek(2, 4 + k), want[k]);
-            }
-            DUE.same("the word before", x.peek(2, 3), 0);
-            DUE.same("the word behind", x.peek(2, 12), 0);
+    /** Promise 19: "IllegalStateException: it is no space": pages of every other kind. */
+    private static void noSpace() {
+        PageMonitor x = World.make();
+        for (int page : World.NO_SPACES) {
+            DUE.thrown("measure(" + page + ", 0)", NOT_MEASURED, () -> x.measure(page, 0));
+            DUE.thrown("measure(" + page + ", 7)", NOT_MEASURED, () -> x.measure(page, 7));
         }
-        PageMonitor y = voucher(new int[8]);
-        y.poke(1, 0, -5);
-        DUE.same("words of data and frame", y.enter(2, 25, 48, 2), 0);
-        int[] want = Bench.voucher(new int[8], Bench.measureOf(y, 0), new int[] {30, 31, 32, 33, 34, 35, 36, -5});
-        for (int k = 0; k < 8; k++) {
-            DUE.same("voucher word " + k, y.peek(2, k), want[k]);
+        x.remove(World.BARE);
+        for (int page : new int[] {World.STOPPED_TABLE, World.STOPPED_THREAD, World.STOPPED_DATA, World.STOPPED_SPARE}) {
+            x.remove(page);
         }
+        DUE.thrown("before it is removed", null, () -> x.measure(World.STOPPED, 0));
+        x.remove(World.STOPPED);
+        DUE.thrown("a space that was removed", NOT_MEASURED, () -> x.measure(World.STOPPED, 0));
+        x.spare(World.STOPPED, World.BUILT);
+        DUE.thrown("a spare page that was a space", NOT_MEASURED, () -> x.measure(World.STOPPED, 0));
+        x.key(0, 0);
+        DUE.thrown("a space before key()", NOT_MEASURED, () -> x.measure(World.FINISHED, 0));
     }
 
-    private static void vouchingOverlaps() {
-        PageMonitor x = voucher(KEY);
-        for (int i = 0; i < 16; i++) {
-            x.poke(2, i, i * i);
-        }
-        DUE.same("from 50 to 53", x.enter(2, 50, 53, 2), 0);
-        int[] want = Bench.voucher(KEY, Bench.measureOf(x, 0), new int[] {4, 9, 16, 25, 36, 49, 64, 81});
-        for (int k = 0; k < 8; k++) {
-            DUE.same("voucher word " + k, x.peek(2, 5 + k), want[k]);
-        }
-        DUE.same("the word before", x.peek(2, 4), 16);
-        DUE.same("the word behind", x.peek(2, 13), 169);
+    /** Promise 19: "or was not finished": built, or stopped before, also on a page that was finished once. */
+    private static void notFinished() {
+        PageMonitor x = World.make();
+        DUE.thrown("a space that is built", NOT_MEASURED, () -> x.measure(World.BUILT, 0));
+        DUE.thrown("stopped before it was finished", NOT_MEASURED, () -> x.measure(World.BARE, 7));
+        x.stop(World.BUILT);
+        DUE.thrown("stopped before it was finished", NOT_MEASURED, () -> x.measure(World.BUILT, 7));
+        DUE.thrown("a finished one", null, () -> x.measure(World.FINISHED, 0));
+        DUE.thrown("a stopped one that was finished", null, () -> x.measure(World.STOPPED, 7));
+        x.key(0, 0);
+        x.space(World.FINISHED);
+        DUE.thrown("a space made anew", NOT_MEASURED, () -> x.measure(World.FINISHED, 0));
+        x.stop(World.FINISHED);
+        DUE.thrown("made anew and stopped", NOT_MEASURED, () -> x.measure(World.FINISHED, 0));
     }
 
-    /** What a voucher leaves behind in the object's rows is not told of the next space. */
-    private static void buildingBehindAVoucher() {
-        PageMonitor x = voucher(KEY);
-        DUE.same("enter", x.enter(2, 16, 48, 2), 0);
-        x.space(10);
-        x.thread(11, 10, 7);
-        DUE.same("enter", x.enter(2, 16, 48, 2), 0);
-        x.finish(10);
-        measured(x, 10, Bench.rows(Bench.row(1, 7), Bench.row(4)));
-    }
-
-    private static void vouchingFaults() {
-        PageMonitor x = voucher(KEY);
-        x.poke(2, 9, 9);
-        int[][] fromToFault = {
-            {16, 57, 0}, {41, 48, 0}, {56, 72, 0}, {57, 48, 2}, {9, 48, 2}, {15, 48, 2}, {72, 48, 2},
-            {-1, 48, 2}, {-8, 48, 2}, {505, 48, 2}, {512, 48, 2}, {Integer.MAX_VALUE, 48, 2},
-            {Integer.MIN_VALUE, 48, 2}, {-7, 9, 2}, {16, 47, 3}, {16, 41, 3}, {16, 73, 3}, {16, 16, 3},
-            {16, 32, 3}, {16, -1, 3}, {16, 505, 3}, {16, 512, 3}, {16, Integer.MAX_VALUE, 3},
-            {16, Integer.MIN_VALUE, 3},
-        };
-        for (int[] w : fromToFault) {
-            Bench.fill(x, 2);
-            int answer = x.enter(2, w[0], w[1], 2);
-            DUE.same("vouch from " + w[0] + " to " + w[1], answer, w[2] == 0 ? 0 : 9);
-            DUE.same("result from " + w[0] + " to " + w[1], x.result(), w[2] == 0 ? w[0] : w[2]);
+    /** Promise 19: "IndexOutOfBoundsException: there is no such page, or word.", named first, if both hold. */
+    private static void whichComesFirst() {
+        PageMonitor x = World.make();
+        for (int i : Bench.outside(7)) {
+            DUE.thrown("a free page, no such word", OUTSIDE, () -> x.measure(World.FREE, i));
+            DUE.thrown("a thread, no such word", OUTSIDE, () -> x.measure(World.ENTERED, i));
+            DUE.thrown("a space that is built, no such word", OUTSIDE, () -> x.measure(World.BUILT, i));
+            DUE.thrown("no such page, no such word", OUTSIDE, () -> x.measure(20, i));
         }
-        PageMonitor y = voucher(KEY);
-        y.enter(2, 16, 47, 2);
-        y.enter(2, 16, 73, 2);
-        y.enter(2, 57, 48, 2);
-        for (int i = 0; i < 16; i++) {
-            DUE.same("nothing of it is done", y.peek(2, i), 0);
-        }
-    }
-
-    /** Compares what stands from rb on: frames 1 and 2 to read at blocks 2 and 3, nothing beside. */
-    private static PageMonitor comparer() {
-        PageMonitor x = new PageMonitor();
-        for (int i = 0; i < 8; i++) {
-            x.key(i, KEY[i]);
-        }
-        Bench.fill(x, 7, Bench.op(10, 0, 1, 0), LEAVE);
-        x.space(0);
-        x.table(1, 0, 0);
-        x.thread(2, 0, 0);
-        x.data(3, 0, 0, 4, 7);
-        x.share(0, 2, 1, 1);
-        x.share(0, 3, 3, 2);
-        x.data(4, 0, 4, 2, 0);
-        x.finish(0);
-        return x;
-    }
-
-    private static void pokeAt(PageMonitor x, int address, int value) {
-        x.poke(1 + (address - 32) / 16, address % 16, value);
-    }
-
-    private static void comparing() {
-        int[] measure = {3, 1, 4, 1, 5, 9, 2, 6};
-        int[] said = {-1, -2, -3, -4, 5, 6, 7, 8};
-        int[] want = Bench.voucher(KEY, measure, said);
-        for (int from = 32; from <= 40; from += 4) {
-            PageMonitor x = comparer();
-            for (int k = 0; k < 8; k++) {
-                pokeAt(x, from + k, measure[k]);
-                pokeAt(x, from + 8 + k, said[k]);
-                pokeAt(x, from + 16 + k, want[k]);
-            }
-            DUE.same("enter", x.enter(2, 99, from, 2), 0);
-            DUE.same("it is the voucher", x.result(), 1);
-            for (int k = 0; k < 24; k++) {
-                int frame = 1 + (from + k - 32) / 16;
-                int i = (from + k) % 16;
-                int was = x.poke(frame, i, x.peek(frame, i) ^ 1 << k);
-                DUE.same("enter", x.enter(2, 99, from, 2), 0);
-                DUE.same("another word " + k, x.result(), 0);
-                x.poke(frame, i, was);
-            }
-            DUE.same("enter", x.enter(2, 99, from, 2), 0);
-            DUE.same("it is the voucher again", x.result(), 1);
-            for (int k = 0; k < 24; k++) {
-                int value = k < 8 ? measure[k] : k < 16 ? said[k - 8] : want[k - 16];
-                DUE.same("words stay", x.peek(1 + (from + k - 32) / 16, (from + k) % 16), value);
-            }
-        }
-    }
-
-    private static void comparingFaults() {
-        PageMonitor x = comparer();
-        for (int from : new int[] {31, 41, 16, 8, -1, -16, 24, 48, 64, 489, 512, Integer.MAX_VALUE, Integer.MIN_VALUE}) {
-            DUE.same("compare from " + from, x.enter(2, 0, from, 2), 9);
-            DUE.same("its fault", x.result(), 2);
-            DUE.same("its steps", x.steps(), 1);
-        }
-        DUE.same("compare from 40", x.enter(2, 9, 40, 2), 0);
-        DUE.same("zeros are no voucher", x.result(), 0);
     }
 }

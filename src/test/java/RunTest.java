@@ -1,120 +1,238 @@
-/** Promises 14 to 17: enter, resume, result, steps; and the instructions but those of the notary. */
+/**
+ * Promises 14 to 17: enter, resume, result, steps. Each comment names the promise and, between quotes,
+ * the words of the document that are tested. What the instructions do is tested in InstructionTest.
+ */
 public final class RunTest {
     private static final Due DUE = new Due("RunTest");
-    private static final int LOWEST = Integer.MIN_VALUE;
-    private static final int HIGHEST = Integer.MAX_VALUE;
-    private static final int LEAVE = Bench.op(0, 0, 0, 0);
+    private static final int LOWEST = Bench.LOWEST;
+    private static final int HIGHEST = Bench.HIGHEST;
+    private static final int LEAVE = Bench.LEAVE;
+    private static final int MORE = Bench.op(2, 0, 1, 0);
+    private static final int[] WRONG_STEPS = {LOWEST, -2000, -1, 0, 2001, 2002, HIGHEST};
 
     public static void main(String[] args) {
-        promise14Enter();
+        promise14NoSuchPageOrSteps();
+        promise14NoThread();
+        promise14NotFinished();
+        promise14Entered();
+        promise14BeginsAtItsEntry();
         promise14Registers();
-        promise14AnyRegisterLeaves();
-        promise15Resume();
-        promise15KeepsAll();
-        promise16And17ResultAndSteps();
-        stepsRunOut();
-        arithmetic();
-        immediates();
-        jumps();
-        loads();
-        saves();
-        placesWithoutInstructions();
-        unknownInstructions();
-        spareBecomesData();
-        spareIsRefused();
-        dataBecomesSpare();
-        codeThatGoesAway();
+        promise14OtherRegistersAreZero();
+        promise14AtMostSteps();
+        promise15NoSuchPageOrSteps();
+        promise15NoThread();
+        promise15NotFinished();
+        promise15NotEntered();
+        promise15GoesOn();
+        promise15KeepsAllOfEachThread();
+        promise15KeepsThePlace();
+        promise15AtMostSteps();
+        promise15OtherCallsBetween();
+        interrupted();
+        interruptedOrLeft();
+        interruptedOrFaulted();
+        promise16OfTheLastRun();
+        promise16RefusedRuns();
+        promise16OtherCalls();
+        promise17HowMany();
+        promise17OneThatFaulted();
+        promise17RefusedRuns();
         DUE.end();
     }
 
-    private static void ran(PageMonitor x, String what, int answer, int due, int result, int steps) {
-        DUE.same(what, answer, due);
-        DUE.same(what + ": result", x.result(), result);
-        DUE.same(what + ": steps", x.steps(), steps);
+    /** Promise 14: "(1: steps is not 1 to 2000)", and "1 a page" out of its range. */
+    private static void promise14NoSuchPageOrSteps() {
+        for (int page : Bench.outside(19)) {
+            DUE.same("enter(" + page + ", 0, 0, 1)", World.make().enter(page, 0, 0, 1), 1);
+        }
+        for (int steps : WRONG_STEPS) {
+            PageMonitor x = World.make();
+            DUE.ran(x, "enter for " + steps + " steps", x.enter(World.LEFT, 20, 2, steps), 1, 1, 2);
+            DUE.same("it is not entered", x.told(World.LEFT, 2), 0);
+        }
+        for (int steps : new int[] {1, 2, 1999, 2000}) {
+            PageMonitor x = Bench.ready(LEAVE);
+            DUE.ran(x, "enter for " + steps + " steps", x.enter(2, steps, 0, steps), 0, steps, 1);
+        }
     }
 
-    private static void promise14Enter() {
+    /** Promise 14: "3 what ought to be a space, or thread, is none." Pages of every other kind. */
+    private static void promise14NoThread() {
+        for (int page : World.NO_THREADS) {
+            PageMonitor x = World.make();
+            DUE.ran(x, "enter(" + page + ", 0, 0, 1), no thread", x.enter(page, 0, 0, 1), 3, 1, 2);
+        }
+    }
+
+    /** Promise 14: "of a finished space"; "Of a thread, the state is that of its space." */
+    private static void promise14NotFinished() {
         PageMonitor x = Bench.building(LEAVE);
-        for (int page : new int[] {-1, 20, LOWEST, HIGHEST}) {
-            DUE.same("enter(" + page + ")", x.enter(page, 0, 0, 1), 1);
-        }
-        for (int steps : new int[] {0, -1, 2001, LOWEST, HIGHEST}) {
-            DUE.same("steps " + steps, x.enter(2, 0, 0, steps), 1);
-            DUE.same("1 comes before 3", x.enter(0, 0, 0, steps), 1);
-        }
-        for (int page : new int[] {0, 1, 3, 9}) {
-            DUE.same("no thread", x.enter(page, 0, 0, 1), 3);
-        }
-        DUE.same("of a space that is built", x.enter(2, 0, 0, 1), 4);
+        DUE.ran(x, "enter() in a space that is built", x.enter(2, 7, 0, 1), 4, 0, 0);
         x.finish(0);
-        ran(x, "one step", x.enter(2, 7, 0, 1), 0, 7, 1);
-        ran(x, "2000 steps", x.enter(2, 8, 0, 2000), 0, 8, 1);
-        DUE.same("a thread that has left is not entered", x.told(2, 2), 0);
+        DUE.ran(x, "enter() in a finished space", x.enter(2, 7, 0, 1), 0, 7, 1);
         x.stop(0);
-        DUE.same("of a stopped space", x.enter(2, 0, 0, 1), 4);
-        DUE.same("refused calls leave the result", x.result(), 8);
+        DUE.ran(x, "enter() in a stopped space", x.enter(2, 8, 0, 1), 4, 7, 1);
+        PageMonitor y = Bench.building(LEAVE);
+        y.stop(0);
+        DUE.ran(y, "enter() in a space that never was finished", y.enter(2, 8, 0, 1), 4, 0, 0);
     }
 
-    private static void promise14Registers() {
-        int add = Bench.op(4, 0, 3, 0);
-        PageMonitor x = Bench.ready(Bench.op(1, 3, 0, 1000), add, Bench.op(2, 0, 1, 0), LEAVE);
-        x.enter(2, 3, 4, 9);
-        DUE.same("a and b in registers 0 and 1", x.result(), 3004);
-        PageMonitor y = Bench.building(Bench.op(0, 2, 0, 0), Bench.op(0, 3, 0, 0), Bench.op(1, 2, 0, 5),
-            Bench.op(1, 3, 0, 6), Bench.op(15, 0, 0, 0));
-        y.thread(4, 0, 1);
-        y.thread(5, 0, 2);
-        y.finish(0);
-        y.enter(5, 1, 1, 9);
-        y.enter(2, 1, 1, 1);
-        DUE.same("register 2 is 0", y.result(), 0);
-        y.enter(4, 1, 1, 1);
-        DUE.same("register 3 is 0", y.result(), 0);
-
-        int six = Bench.op(1, 2, 0, 6);
-        PageMonitor z = Bench.ready(Bench.op(8, 1, 0, 2), six, six, Bench.op(0, 2, 0, 0));
-        DUE.same("interrupted with register 2 as 6", z.enter(2, 0, 0, 3), 8);
-        DUE.same("it leaves with 6", z.resume(2, 1), 0);
-        DUE.same("result", z.result(), 6);
-        z.enter(2, 0, 1, 9);
-        DUE.same("entered anew register 2 is 0", z.result(), 0);
-    }
-
-    private static void promise14AnyRegisterLeaves() {
-        for (int a = 0; a < 4; a++) {
-            PageMonitor x = Bench.ready(Bench.op(1, 0, 0, 10), Bench.op(1, 1, 0, 11), Bench.op(1, 2, 0, 12),
-                Bench.op(1, 3, 0, 13), Bench.op(0, a, 3, -1));
-            ran(x, "leave with register " + a, x.enter(2, 0, 0, 100), 0, 10 + a, 5);
-        }
-    }
-
-    private static void promise15Resume() {
-        int more = Bench.op(2, 0, 1, 0);
-        PageMonitor x = Bench.building(more, more, more, more, LEAVE);
-        for (int page : new int[] {-1, 20, LOWEST, HIGHEST}) {
-            DUE.same("resume(" + page + ")", x.resume(page, 1), 1);
-        }
-        for (int steps : new int[] {0, -1, 2001, LOWEST, HIGHEST}) {
-            DUE.same("steps " + steps, x.resume(2, steps), 1);
-        }
-        DUE.same("no thread", x.resume(3, 1), 3);
-        DUE.same("4 comes before 6", x.resume(2, 1), 4);
-        x.finish(0);
-        DUE.same("not entered", x.resume(2, 1), 6);
-        ran(x, "enter", x.enter(2, 5, 10, 1), 8, 0, 1);
-        DUE.same("entered", x.told(2, 2), 1);
-        DUE.same("enter an entered one", x.enter(2, 5, 10, 1), 6);
-        DUE.same("1 comes before 6", x.enter(2, 5, 10, 0), 1);
-        DUE.same("1 comes before 6", x.resume(2, 2001), 1);
+    /** Promise 14: "A thread that isn't entered"; "6 the thread is entered (or, for resume, is not)." */
+    private static void promise14Entered() {
+        PageMonitor x = Bench.ready(MORE, LEAVE);
+        DUE.ran(x, "enter", x.enter(2, 5, 10, 1), 8, 0, 1);
+        DUE.ran(x, "enter() of an entered one", x.enter(2, 6, 20, 2000), 6, 0, 1);
         DUE.same("it is entered still", x.told(2, 2), 1);
-        ran(x, "resume", x.resume(2, 2), 8, 0, 2);
-        ran(x, "resume to the end", x.resume(2, 2000), 0, 45, 2);
-        DUE.same("left", x.told(2, 2), 0);
-        DUE.same("not entered any more", x.resume(2, 1), 6);
-        ran(x, "enter again begins at the entry", x.enter(2, 1, 1, 2000), 0, 5, 5);
+        DUE.ran(x, "with what it had kept", x.resume(2, 1), 0, 15, 1);
+        DUE.ran(x, "enter() of one that has left", x.enter(2, 6, 20, 9), 0, 26, 2);
+        DUE.same("it is not entered", x.told(2, 2), 0);
+        PageMonitor y = Bench.ready(Bench.op(8, 0, 0, 1), LEAVE, Bench.op(15, 0, 0, 0));
+        DUE.ran(y, "enter", y.enter(2, 1, 0, 9), 9, 4, 2);
+        DUE.ran(y, "enter() of one that has faulted", y.enter(2, 0, 0, 9), 0, 0, 2);
     }
 
-    private static void promise15KeepsAll() {
+    /** Promise 14: "begins at its entry", whatever it did before; each thread at its own. */
+    private static void promise14BeginsAtItsEntry() {
+        int[] code = new int[16];
+        for (int i = 0; i < 16; i += 2) {
+            code[i] = Bench.op(1, 0, 0, i);
+        }
+        PageMonitor x = Bench.building(code);
+        for (int k = 1; k < 8; k++) {
+            x.thread(10 + k, 0, 2 * k);
+        }
+        x.finish(0);
+        for (int again = 0; again < 2; again++) {
+            for (int k = 1; k < 8; k++) {
+                DUE.ran(x, "the entry " + 2 * k, x.enter(10 + k, 99, 0, 9), 0, 2 * k, 2);
+            }
+            DUE.ran(x, "the entry 0", x.enter(2, 99, 0, 9), 0, 0, 2);
+        }
+    }
+
+    /** Promise 14: "with a and b in registers 0 and 1". Words at their ends, too. */
+    private static void promise14Registers() {
+        PageMonitor x = Bench.building(LEAVE, Bench.op(0, 1, 0, 0));
+        x.thread(4, 0, 1);
+        x.finish(0);
+        int[] values = {0, 1, -1, 0x01020304, LOWEST, HIGHEST};
+        for (int a : values) {
+            for (int b : values) {
+                DUE.ran(x, "a in register 0", x.enter(2, a, b, 1), 0, a, 1);
+                DUE.ran(x, "b in register 1", x.enter(4, a, b, 1), 0, b, 1);
+            }
+        }
+    }
+
+    /** Promise 14: "and 0 in the others", also when they were something else when it left or faulted. */
+    private static void promise14OtherRegistersAreZero() {
+        int six = Bench.op(1, 2, 0, 6);
+        int seven = Bench.op(1, 3, 0, 7);
+        int[] code = {
+            Bench.op(8, 0, 0, 4), six, seven, Bench.op(8, 1, 0, 4), LEAVE,
+            Bench.op(2, 2, 3, 0), Bench.op(0, 2, 0, 0), 0, Bench.op(15, 0, 0, 0),
+        };
+        PageMonitor x = Bench.ready(code);
+        DUE.ran(x, "others of a new thread", x.enter(2, 1, 0, 9), 0, 0, 3);
+        DUE.ran(x, "leaves with others 6 and 7", x.enter(2, 0, 0, 9), 0, 0, 5);
+        DUE.ran(x, "others of one that has left", x.enter(2, 1, 0, 9), 0, 0, 3);
+        DUE.ran(x, "faults with others 6 and 7", x.enter(2, 0, 1, 9), 9, 4, 5);
+        DUE.ran(x, "others of one that has faulted", x.enter(2, 1, 0, 9), 0, 0, 3);
+    }
+
+    /** Takes 2 * a + 2 instructions from entry 0 (thread 2), one less from entry 1 (thread 4), if b is 1. */
+    private static PageMonitor countdown() {
+        PageMonitor x = Bench.building(Bench.op(1, 2, 0, 5), Bench.op(3, 0, 1, 0), Bench.op(8, 0, 0, -2),
+            Bench.op(0, 1, 0, 0));
+        x.thread(4, 0, 1);
+        x.finish(0);
+        return x;
+    }
+
+    /** Promise 14: "for at most steps instructions". One too few, just enough and more, up to 2000. */
+    private static void promise14AtMostSteps() {
+        PageMonitor x = countdown();
+        for (int[] w : new int[][] {{4, 1, 3}, {2, 1, 4}, {4, 50, 101}, {4, 999, 1999}, {2, 999, 2000}}) {
+            int thread = w[0];
+            int needs = w[2];
+            DUE.ran(x, "one step too few", x.enter(thread, w[1], 1, needs - 1), 8, 0, needs - 1);
+            DUE.ran(x, "the last step", x.resume(thread, 1), 0, 1, 1);
+            DUE.ran(x, "just enough steps", x.enter(thread, w[1], 1, needs), 0, 1, needs);
+            DUE.ran(x, "2000 steps", x.enter(thread, w[1], 1, 2000), 0, 1, needs);
+        }
+        DUE.ran(x, "2000 steps of 2002", x.enter(2, 1000, 1, 2000), 8, 0, 2000);
+        DUE.ran(x, "the 2001st", x.resume(2, 1), 8, 0, 1);
+        DUE.ran(x, "the 2002nd", x.resume(2, 1), 0, 1, 1);
+        DUE.ran(x, "one step", x.enter(2, 1000, 1, 1), 8, 0, 1);
+    }
+
+    /** Promise 15: "(1: steps is not 1 to 2000)", and "1 a page" out of its range. */
+    private static void promise15NoSuchPageOrSteps() {
+        for (int page : Bench.outside(19)) {
+            DUE.same("resume(" + page + ", 1)", World.make().resume(page, 1), 1);
+        }
+        for (int steps : WRONG_STEPS) {
+            PageMonitor x = World.make();
+            DUE.ran(x, "resume for " + steps + " steps", x.resume(World.ENTERED, steps), 1, 1, 2);
+            DUE.same("it is entered still", x.told(World.ENTERED, 2), 1);
+        }
+        for (int steps : new int[] {1, 2, 1999, 2000}) {
+            PageMonitor x = Bench.ready(MORE, LEAVE);
+            x.enter(2, steps, 3, 1);
+            DUE.ran(x, "resume for " + steps + " steps", x.resume(2, steps), 0, steps + 3, 1);
+        }
+    }
+
+    /** Promise 15: "3 what ought to be a space, or thread, is none." Pages of every other kind. */
+    private static void promise15NoThread() {
+        for (int page : World.NO_THREADS) {
+            PageMonitor x = World.make();
+            DUE.ran(x, "resume(" + page + ", 1), no thread", x.resume(page, 1), 3, 1, 2);
+        }
+    }
+
+    /** Promise 15: "An entered thread of a finished space"; 4 comes before 6. */
+    private static void promise15NotFinished() {
+        PageMonitor x = Bench.building(MORE, MORE, LEAVE);
+        DUE.ran(x, "resume() in a space that is built", x.resume(2, 1), 4, 0, 0);
+        x.finish(0);
+        x.enter(2, 7, 1, 1);
+        DUE.ran(x, "resume() in a finished space", x.resume(2, 1), 8, 0, 1);
+        x.stop(0);
+        DUE.ran(x, "resume() in a stopped space", x.resume(2, 1), 4, 0, 1);
+        DUE.same("it is not entered", x.told(2, 2), 0);
+    }
+
+    /** Promise 15: "6 the thread is entered (or, for resume, is not)." New, left, or faulted. */
+    private static void promise15NotEntered() {
+        PageMonitor x = Bench.ready(Bench.op(8, 0, 0, 1), LEAVE, Bench.op(15, 0, 0, 0));
+        DUE.ran(x, "resume() of a new thread", x.resume(2, 1), 6, 0, 0);
+        x.enter(2, 0, 0, 9);
+        DUE.ran(x, "resume() of one that has left", x.resume(2, 1), 6, 0, 2);
+        x.enter(2, 1, 0, 9);
+        DUE.ran(x, "resume() of one that has faulted", x.resume(2, 1), 6, 4, 2);
+        x.enter(2, 0, 0, 1);
+        DUE.ran(x, "resume() of an entered one", x.resume(2, 1), 0, 0, 1);
+        DUE.ran(x, "resume() of one that has left then", x.resume(2, 1), 6, 0, 1);
+        x.enter(2, 1, 0, 1);
+        DUE.ran(x, "resume() of an entered one that faults", x.resume(2, 1), 9, 4, 1);
+        DUE.ran(x, "resume() of one that has faulted then", x.resume(2, 1), 6, 4, 1);
+    }
+
+    /** Promise 15: "An entered thread of a finished space goes on". */
+    private static void promise15GoesOn() {
+        PageMonitor x = Bench.ready(MORE, MORE, MORE, MORE, LEAVE);
+        DUE.ran(x, "enter", x.enter(2, 5, 10, 1), 8, 0, 1);
+        DUE.same("it is entered", x.told(2, 2), 1);
+        DUE.ran(x, "resume", x.resume(2, 2), 8, 0, 2);
+        DUE.same("it is entered still", x.told(2, 2), 1);
+        DUE.ran(x, "resume to the end", x.resume(2, 2000), 0, 45, 2);
+        DUE.same("it is not entered any more", x.told(2, 2), 0);
+        DUE.ran(x, "entered again it begins at its entry", x.enter(2, 1, 1, 2000), 0, 5, 5);
+    }
+
+    /** Promise 15: "its registers and place are kept". All four, of each of two threads at once. */
+    private static void promise15KeepsAllOfEachThread() {
         int[] code = {
             Bench.op(1, 2, 0, 30), Bench.op(1, 3, 0, 40), Bench.op(2, 0, 1, 0), Bench.op(2, 0, 2, 0),
             Bench.op(2, 0, 3, 0), LEAVE,
@@ -125,277 +243,223 @@ public final class RunTest {
         x.enter(2, 10, 20, 1);
         x.enter(4, 1, 2, 2);
         for (int k = 0; k < 4; k++) {
-            DUE.same("a step of one thread", x.resume(2, 1), 8);
+            DUE.same("a step of the one", x.resume(2, 1), 8);
             if (k < 3) {
                 DUE.same("a step of the other", x.resume(4, 1), 8);
             }
         }
-        ran(x, "the one", x.resume(2, 1), 0, 100, 1);
-        ran(x, "the other", x.resume(4, 1), 0, 73, 1);
+        DUE.ran(x, "the one", x.resume(2, 1), 0, 100, 1);
+        DUE.ran(x, "the other", x.resume(4, 1), 0, 73, 1);
     }
 
-    private static void promise16And17ResultAndSteps() {
+    /** Promise 15: "its registers and place are kept", also a place where nothing is. */
+    private static void promise15KeepsThePlace() {
+        PageMonitor x = new PageMonitor();
+        x.space(0);
+        x.table(1, 0, 3);
+        int[] code = new int[16];
+        code[14] = Bench.op(8, 0, 1, -512);
+        code[15] = Bench.op(8, 1, 0, 8388607);
+        Bench.data(x, 2, 0, 31, 4, code);
+        x.thread(3, 0, 510);
+        x.thread(4, 0, 511);
+        x.finish(0);
+        DUE.ran(x, "goes on behind 511", x.enter(4, 0, 0, 1), 8, 0, 1);
+        DUE.same("it is entered", x.told(4, 2), 1);
+        DUE.ran(x, "nothing is at 512", x.resume(4, 1), 9, 1, 1);
+        DUE.ran(x, "goes on far behind 511", x.enter(4, 0, 1, 1), 8, 0, 1);
+        DUE.ran(x, "nothing is there", x.resume(4, 2000), 9, 1, 1);
+        DUE.ran(x, "goes on to -1", x.enter(3, 1, 0, 1), 8, 0, 1);
+        DUE.ran(x, "nothing is at -1", x.resume(3, 1), 9, 1, 1);
+        DUE.same("it is not entered", x.told(3, 2), 0);
+    }
+
+    /** Promise 15: "for at most steps instructions". One too few, just enough and more, up to 2000. */
+    private static void promise15AtMostSteps() {
+        PageMonitor x = countdown();
+        for (int[] w : new int[][] {{4, 1, 3}, {2, 1, 4}, {4, 50, 101}, {2, 999, 2000}, {4, 1000, 2001}}) {
+            int thread = w[0];
+            int rest = w[2] - 1;
+            x.enter(thread, w[1], 1, 1);
+            DUE.ran(x, "just enough steps", x.resume(thread, rest), 0, 1, rest);
+            x.enter(thread, w[1], 1, 1);
+            DUE.ran(x, "2000 steps", x.resume(thread, 2000), 0, 1, rest);
+            x.enter(thread, w[1], 1, 1);
+            DUE.ran(x, "one step too few", x.resume(thread, rest - 1), 8, 0, rest - 1);
+            DUE.ran(x, "the last step", x.resume(thread, 1), 0, 1, 1);
+        }
+        x.enter(2, 1000, 1, 1);
+        DUE.ran(x, "2000 steps of 2001", x.resume(2, 2000), 8, 0, 2000);
+        DUE.ran(x, "the last step", x.resume(2, 1), 0, 1, 1);
+    }
+
+    /** Promise 15: "its registers and place are kept" whatever else the system asks for between. */
+    private static void promise15OtherCallsBetween() {
+        PageMonitor x = Bench.building(MORE, Bench.op(6, 2, 0, 0), Bench.op(2, 0, 2, 0), LEAVE);
+        x.share(0, 1, 1, 2);
+        x.finish(0);
+        DUE.same("enter", x.enter(2, 10, 6, 1), 8);
+        x.poke(2, 0, 500);
+        x.space(4);
+        x.thread(5, 4, 9);
+        x.spare(6, 0);
+        x.remove(6);
+        x.stop(4);
+        x.remove(5);
+        x.remove(4);
+        x.enter(2, 1, 1, 1);
+        x.enter(3, 1, 1, 1);
+        x.finish(0);
+        DUE.told(x, 2, 2, 0, 1, 0);
+        DUE.ran(x, "resume", x.resume(2, 9), 0, 516, 3);
+    }
+
+    /** Promises 14 and 15: "It is INTERRUPTED behind so many instructions as are told". */
+    private static void interrupted() {
+        for (int steps = 1; steps <= 5; steps++) {
+            PageMonitor x = Bench.building(Bench.op(7, 0, 0, 0), MORE, Bench.op(7, 0, 0, 0), MORE,
+                Bench.op(7, 0, 0, 0), LEAVE);
+            x.share(0, 1, 3, 1);
+            x.finish(0);
+            DUE.ran(x, "interrupted behind " + steps, x.enter(2, 16, 1, steps), 8, 0, steps);
+            DUE.told(x, 2, 2, 0, 1, 0);
+            for (int k = 0; k < 3; k++) {
+                DUE.same("what it has written of " + k, x.peek(1, k), steps > 2 * k ? 16 + k : 0);
+            }
+        }
+    }
+
+    /** Promises 14 and 15: "and 0 if it left", also with the last instruction that it may do. */
+    private static void interruptedOrLeft() {
+        PageMonitor x = Bench.ready(Bench.op(1, 1, 0, 1), LEAVE);
+        DUE.ran(x, "leaves with its last step", x.enter(2, 3, 0, 2), 0, 3, 2);
+        DUE.same("it is not entered", x.told(2, 2), 0);
+        DUE.ran(x, "is interrupted before", x.enter(2, 3, 0, 1), 8, 0, 1);
+        DUE.same("it is entered", x.told(2, 2), 1);
+        DUE.ran(x, "leaves with its only step", x.resume(2, 1), 0, 3, 1);
+    }
+
+    /** Promises 14 and 15: "9 it faulted", also with the last instruction that it may do. */
+    private static void interruptedOrFaulted() {
+        PageMonitor x = Bench.ready(Bench.op(1, 1, 0, 1), Bench.op(15, 0, 0, 0));
+        DUE.ran(x, "faults with its last step", x.enter(2, 3, 0, 2), 9, 4, 2);
+        DUE.same("it is not entered", x.told(2, 2), 0);
+        DUE.ran(x, "is interrupted before", x.enter(2, 3, 0, 1), 8, 0, 1);
+        DUE.ran(x, "faults with its only step", x.resume(2, 1), 9, 4, 1);
+    }
+
+    /** Promise 16: "What the last enter() or resume() that answered 0, 8 or 9 came to." */
+    private static void promise16OfTheLastRun() {
+        PageMonitor x = Bench.building(MORE, LEAVE, Bench.op(14, 0, 0, 0));
+        x.thread(4, 0, 2);
+        x.thread(5, 0, 511);
+        x.finish(0);
+        for (int v : new int[] {7, -1, 0, LOWEST, HIGHEST}) {
+            DUE.ran(x, "enter() left with " + v, x.enter(2, v, 0, 9), 0, v, 2);
+            DUE.ran(x, "enter() was interrupted", x.enter(2, v, 0, 1), 8, 0, 1);
+            DUE.ran(x, "resume() left with " + v, x.resume(2, 1), 0, v, 1);
+            DUE.ran(x, "enter() faulted", x.enter(4, v, 0, 9), 9, 4, 1);
+            DUE.ran(x, "enter() was interrupted", x.enter(2, v, 0, 1), 8, 0, 1);
+            DUE.ran(x, "enter() of another one faulted", x.enter(5, v, 0, 9), 9, 1, 1);
+            DUE.ran(x, "resume() left with " + v, x.resume(2, 9), 0, v, 1);
+        }
+        DUE.same("result() again", x.result(), HIGHEST);
+    }
+
+    private static void refusedRuns(PageMonitor x, int result, int steps) {
+        DUE.ran(x, "1, no page", x.enter(20, 5, 5, 1), 1, result, steps);
+        DUE.ran(x, "1, no steps", x.enter(2, 5, 5, 0), 1, result, steps);
+        DUE.ran(x, "1, no page", x.resume(-1, 1), 1, result, steps);
+        DUE.ran(x, "1, too many steps", x.resume(2, 2001), 1, result, steps);
+        DUE.ran(x, "3", x.enter(3, 5, 5, 1), 3, result, steps);
+        DUE.ran(x, "3", x.resume(3, 1), 3, result, steps);
+        DUE.ran(x, "4", x.enter(12, 5, 5, 1), 4, result, steps);
+        DUE.ran(x, "4", x.resume(12, 1), 4, result, steps);
+    }
+
+    private static PageMonitor withAnotherThread() {
+        PageMonitor x = Bench.building(MORE, LEAVE, MORE, MORE, Bench.op(15, 0, 0, 0));
+        x.thread(4, 0, 2);
+        x.finish(0);
+        x.space(11);
+        x.thread(12, 11, 0);
+        return x;
+    }
+
+    /** Promise 16: the last "that answered 0, 8 or 9": what was refused since does not count. */
+    private static void promise16RefusedRuns() {
+        PageMonitor x = withAnotherThread();
+        refusedRuns(x, 0, 0);
+        DUE.ran(x, "left", x.enter(2, 30, 3, 9), 0, 33, 2);
+        refusedRuns(x, 33, 2);
+        DUE.ran(x, "6, not entered", x.resume(2, 1), 6, 33, 2);
+        DUE.ran(x, "faulted", x.enter(4, 1, 1, 9), 9, 4, 3);
+        refusedRuns(x, 4, 3);
+        DUE.ran(x, "interrupted", x.enter(2, 1, 1, 1), 8, 0, 1);
+        refusedRuns(x, 0, 1);
+        DUE.ran(x, "6, entered", x.enter(2, 1, 1, 9), 6, 0, 1);
+    }
+
+    /** Promises 16 and 17: no other call of the system but key() changes what they tell. */
+    private static void promise16OtherCalls() {
+        PageMonitor x = withAnotherThread();
+        DUE.ran(x, "left", x.enter(2, 30, 3, 9), 0, 33, 2);
+        x.poke(0, 0, 1);
+        x.peek(0, 0);
+        x.space(5);
+        x.table(6, 5, 0);
+        x.thread(7, 5, 0);
+        x.data(8, 5, 0, 7, 0);
+        x.share(5, 1, 1, 0);
+        x.spare(9, 5);
+        x.finish(5);
+        x.measure(5, 0);
+        x.told(5, 0);
+        x.stop(5);
+        x.remove(9);
+        x.stop(0);
+        DUE.same("result()", x.result(), 33);
+        DUE.same("steps()", x.steps(), 2);
+    }
+
+    /** Promise 17: "How many instructions that did". From 1 to 2000, of enter() and of resume() alone. */
+    private static void promise17HowMany() {
+        PageMonitor x = Bench.ready(Bench.op(1, 2, 0, 1), Bench.op(2, 0, 2, 0), Bench.op(8, 2, 0, -2));
+        DUE.ran(x, "a loop for one step", x.enter(2, 0, 0, 1), 8, 0, 1);
+        DUE.ran(x, "for 2000", x.resume(2, 2000), 8, 0, 2000);
+        DUE.ran(x, "for 1999", x.resume(2, 1999), 8, 0, 1999);
+        DUE.ran(x, "for one more", x.resume(2, 1), 8, 0, 1);
+        PageMonitor y = Bench.ready(LEAVE);
+        DUE.ran(y, "one that left at once, of 2000", y.enter(2, 9, 0, 2000), 0, 9, 1);
+        PageMonitor z = Bench.ready(MORE, MORE, MORE, LEAVE);
+        DUE.ran(z, "one that left, of 2000", z.enter(2, 9, 0, 2000), 0, 9, 4);
+    }
+
+    /** Promise 17: "(one that faulted, too, also for want of its word)". */
+    private static void promise17OneThatFaulted() {
         PageMonitor x = Bench.building(Bench.op(1, 0, 0, 9), Bench.op(14, 0, 0, 0));
         x.thread(4, 0, 100);
+        x.thread(5, 0, 1);
+        x.thread(6, 0, 511);
+        Bench.data(x, 7, 0, 1, 4, 1, 1, 1, 1, 1, 1, 1, 1, 1, 1, 1, 1, 1, 1, 1, 1);
+        x.thread(8, 0, 16);
         x.finish(0);
-        ran(x, "interrupted", x.enter(2, 0, 0, 1), 8, 0, 1);
-        ran(x, "faulted", x.resume(2, 9), 9, 4, 1);
-        DUE.same("a thread that faulted is not entered", x.told(2, 2), 0);
-        DUE.same("resume behind a fault", x.resume(2, 9), 6);
-        ran(x, "refused", x.enter(2, 0, 0, 0), 1, 4, 1);
-        ran(x, "two steps, one faulted", x.enter(2, 0, 0, 2), 9, 4, 2);
-        ran(x, "for want of a word", x.enter(4, 0, 0, 9), 9, 1, 1);
-        ran(x, "interrupted", x.enter(2, 0, 0, 1), 8, 0, 1);
-        ran(x, "refused", x.enter(2, 0, 0, 1), 6, 0, 1);
+        DUE.ran(x, "faulted with the first", x.enter(5, 0, 0, 9), 9, 4, 1);
+        DUE.ran(x, "faulted with the second", x.enter(2, 0, 0, 9), 9, 4, 2);
+        DUE.ran(x, "for want of the first word", x.enter(4, 0, 0, 9), 9, 1, 1);
+        DUE.ran(x, "for want of the first word, one step", x.enter(6, 0, 0, 1), 9, 1, 1);
+        DUE.ran(x, "for want of the 17th word", x.enter(8, 0, 0, 2000), 9, 1, 17);
+        DUE.ran(x, "for want of the 17th word, 17 steps", x.enter(8, 0, 0, 17), 9, 1, 17);
+        DUE.ran(x, "interrupted before", x.enter(8, 0, 0, 16), 8, 0, 16);
+        DUE.ran(x, "for want of the next word", x.resume(8, 5), 9, 1, 1);
     }
 
-    private static void stepsRunOut() {
-        PageMonitor x = Bench.ready(Bench.op(1, 2, 0, 1), Bench.op(2, 0, 2, 0), Bench.op(8, 2, 0, -2));
-        ran(x, "a loop for 2000 steps", x.enter(2, 0, 0, 2000), 8, 0, 2000);
-        ran(x, "and 1999 more", x.resume(2, 1999), 8, 0, 1999);
-        PageMonitor y = Bench.ready(Bench.op(1, 1, 0, 1), LEAVE);
-        ran(y, "leaves with its last step", y.enter(2, 3, 0, 2), 0, 3, 2);
-        PageMonitor z = Bench.ready(Bench.op(1, 1, 0, 1), Bench.op(15, 0, 0, 0));
-        ran(z, "faults with its last step", z.enter(2, 3, 0, 2), 9, 4, 2);
-        PageMonitor w = Bench.ready(Bench.op(8, 0, 0, 1000));
-        ran(w, "jumps away with its last step", w.enter(2, 3, 0, 1), 8, 0, 1);
-        ran(w, "and has nothing to do there", w.resume(2, 1), 9, 1, 1);
-    }
-
-    private static int does(int op, int a, int b) {
-        PageMonitor x = Bench.ready(Bench.op(op, 0, 1, 0x7fff), LEAVE);
-        DUE.same("op " + op, x.enter(2, a, b, 2), 0);
-        return x.result();
-    }
-
-    private static void arithmetic() {
-        int[] values = {0, 1, -1, 7, -13, 65537, HIGHEST, LOWEST, 0x55555555, 0x0ff0f00f};
-        for (int a : values) {
-            for (int b : values) {
-                DUE.same(a + " + " + b, does(2, a, b), a + b);
-                DUE.same(a + " - " + b, does(3, a, b), a - b);
-                DUE.same(a + " * " + b, does(4, a, b), a * b);
-                DUE.same(a + " & " + b, does(5, a, b), a & b);
-            }
-        }
-        for (int op = 2; op <= 5; op++) {
-            PageMonitor x = Bench.ready(Bench.op(op, 1, 1, 0), Bench.op(0, 1, 0, 0));
-            x.enter(2, 0, 6, 2);
-            DUE.same("op " + op + " with one register", x.result(), new int[] {12, 0, 36, 6}[op - 2]);
-            PageMonitor y = Bench.ready(Bench.op(op, 0, 1, 0), Bench.op(0, 1, 0, 0));
-            y.enter(2, 5, 6, 2);
-            DUE.same("op " + op + " leaves rb", y.result(), 6);
-        }
-    }
-
-    private static void immediates() {
-        for (int i : new int[] {0, 1, -1, 255, 256, 0x7fffff, -0x800000}) {
-            PageMonitor x = Bench.ready(Bench.op(1, 0, 3, i), LEAVE);
-            x.enter(2, 9, 9, 2);
-            DUE.same("i " + i, x.result(), i);
-        }
-    }
-
-    private static void jumps() {
-        int[] code = new int[16];
-        for (int i = 0; i < 16; i++) {
-            code[i] = i % 2 == 0 ? Bench.op(1, 1, 0, i) : Bench.op(0, 1, 0, 0);
-        }
-        for (int to = 0; to < 16; to += 2) {
-            int[] jumping = code.clone();
-            jumping[7] = Bench.op(8, 0, 0, to - 8);
-            PageMonitor x = Bench.building(jumping);
-            x.thread(4, 0, 7);
-            x.finish(0);
-            if (to == 6) {
-                ran(x, "a loop", x.enter(4, LOWEST, 0, 3), 8, 0, 3);
-                continue;
-            }
-            ran(x, "jump to " + to, x.enter(4, LOWEST, 0, 3), 0, to, 3);
-            ran(x, "no jump", x.enter(4, 0, 1, 3), 0, 8, 3);
-        }
-        for (int i : new int[] {-9, -8388608, 504, 8388607}) {
-            PageMonitor x = Bench.building(new int[] {0, 0, 0, 0, 0, 0, 0, Bench.op(8, 0, 0, i)});
-            x.thread(4, 0, 7);
-            x.finish(0);
-            ran(x, "jump outside by " + i, x.enter(4, 1, 0, 9), 9, 1, 2);
-        }
-    }
-
-    /** Code that loads rb + i, with data of rights 1 to 7 at blocks 1 to 7 and a frame at 8. */
-    private static PageMonitor loader(int op, int i) {
-        PageMonitor x = Bench.building(Bench.op(op, 0, 1, i), LEAVE);
-        x.table(4, 0, 1);
-        for (int rights = 1; rights <= 7; rights++) {
-            Bench.fill(x, 0, rights * 100, 1, 2, 3, 4, 5, 6, 7, 8, 9, 10, 11, 12, 13, 14, rights * 100 + 15);
-            x.data(4 + rights, 0, rights, rights, 0);
-        }
-        x.share(0, 8, 1, 0);
-        x.finish(0);
-        return x;
-    }
-
-    private static void loads() {
-        for (int i : new int[] {0, 5, -3, 8388607, -8388608}) {
-            PageMonitor x = loader(6, i);
-            for (int rights = 1; rights <= 7; rights++) {
-                if ((rights & 1) != 0) {
-                    ran(x, "first word", x.enter(2, 1, rights * 16 - i, 9), 0, rights * 100, 2);
-                    ran(x, "last word", x.enter(2, 1, rights * 16 + 15 - i, 9), 0, rights * 100 + 15, 2);
-                } else {
-                    ran(x, "no right to read", x.enter(2, 1, rights * 16 - i, 9), 9, 2, 1);
-                    ran(x, "no right to read", x.enter(2, 1, rights * 16 + 15 - i, 9), 9, 2, 1);
-                }
-            }
-            ran(x, "a frame", x.enter(2, 1, 128 - i, 9), 0, 700, 2);
-            ran(x, "code has no right to be read", x.enter(2, 1, 15 - i, 9), 9, 2, 1);
-            for (int address : new int[] {-1, 144, 255, 256, 511, 512, LOWEST, HIGHEST, -16, 1024 + 16}) {
-                ran(x, "nothing at " + address, x.enter(2, 1, address - i, 9), 9, 2, 1);
-            }
-        }
-    }
-
-    private static void saves() {
-        PageMonitor x = loader(7, 2);
-        for (int rights = 1; rights <= 7; rights++) {
-            boolean may = (rights & 2) != 0;
-            ran(x, "save with rights " + rights, x.enter(2, 55, rights * 16, 9), may ? 0 : 9, may ? 55 : 3, may ? 2 : 1);
-        }
-        for (int address : new int[] {-1, 0, 128, 144, 511, 512, LOWEST, HIGHEST}) {
-            ran(x, "no right to write at " + address, x.enter(2, 1, address - 2, 9), 9, 3, 1);
-        }
-        PageMonitor y = Bench.building(Bench.op(7, 0, 1, 0), Bench.op(6, 2, 1, 0), Bench.op(0, 2, 0, 0));
-        y.data(4, 0, 1, 3, 6);
-        y.share(0, 2, 3, 6);
-        y.finish(0);
-        for (int address = 16; address < 48; address++) {
-            ran(y, "save and load", y.enter(2, -address, address, 3), 0, -address, 3);
-        }
-        for (int i = 0; i < 16; i++) {
-            DUE.same("the frame's words", y.peek(6, i), -32 - i);
-        }
-        PageMonitor z = Bench.building();
-        Bench.fill(z, 5, Bench.op(7, 0, 1, 0), Bench.op(15, 0, 0, 0));
-        z.data(4, 0, 1, 6, 5);
-        z.thread(5, 0, 16);
-        z.finish(0);
-        ran(z, "code that writes its next instruction", z.enter(5, Bench.op(0, 1, 0, 0), 17, 9), 0, 17, 2);
-    }
-
-    private static void placesWithoutInstructions() {
-        PageMonitor x = Bench.building(Bench.op(1, 1, 0, 1), 0, 0, 0, 0, 0, 0, 0, 0, 0, 0, 0, 0, 0, 0,
-            Bench.op(1, 1, 0, 3));
-        x.table(4, 0, 3);
-        Bench.fill(x, 0, 0, 0, 0, 0, 0, 0, 0, 0, 0, 0, 0, 0, 0, 0, 0, Bench.op(1, 1, 0, 1));
-        x.data(5, 0, 31, 4, 0);
-        x.thread(6, 0, 15);
-        x.thread(7, 0, 511);
-        x.thread(8, 0, 128);
-        x.data(9, 0, 2, 3, 0);
-        x.thread(10, 0, 32);
-        x.share(0, 3, 3, 0);
-        x.thread(11, 0, 48);
-        x.finish(0);
-        ran(x, "goes on into an empty entry", x.enter(6, 0, 0, 9), 9, 1, 2);
-        ran(x, "goes on behind the last address", x.enter(7, 0, 0, 9), 9, 1, 2);
-        ran(x, "where no table is", x.enter(8, 0, 0, 9), 9, 1, 1);
-        ran(x, "data without the right 4", x.enter(10, 0, 0, 9), 9, 1, 1);
-        ran(x, "a frame never has the right 4", x.enter(11, 0, 0, 9), 9, 1, 1);
-        DUE.same("faulted threads are not entered", x.told(11, 2), 0);
-    }
-
-    private static void unknownInstructions() {
-        for (int op = 14; op <= 15; op++) {
-            PageMonitor x = Bench.ready(Bench.op(op, 1, 2, 3));
-            ran(x, "op " + op, x.enter(2, 5, 5, 9), 9, 4, 1);
-        }
-    }
-
-    private static PageMonitor withSpares(int... code) {
-        PageMonitor x = Bench.building(code);
-        Bench.fill(x, 0, 5, 5, 5, 5, 5, 5, 5, 5, 5, 5, 5, 5, 5, 5, 5, 5);
-        x.data(4, 0, 1, 3, 0);
-        x.share(0, 2, 3, 0);
-        x.share(0, 3, 1, 7);
-        x.spare(5, 0);
-        x.spare(19, 0);
-        x.space(10);
-        x.spare(11, 10);
-        x.finish(0);
-        return x;
-    }
-
-    private static void spareBecomesData() {
-        for (int rights = 1; rights <= 7; rights++) {
-            PageMonitor x = withSpares(Bench.op(12, 0, 1, rights + 8), LEAVE);
-            ran(x, "rights " + rights, x.enter(2, 5, 7, 9), 0, 0, 2);
-            DUE.same("it is data", x.told(5, 0), 4);
-            DUE.same("it belongs to the space", x.told(5, 1), 0);
-            DUE.same("the space has as many pages", x.told(0, 3), 6);
-            DUE.same("data is not removed", x.remove(5), 4);
-            ran(x, "the entry isn't empty now", x.enter(2, 19, 7, 9), 0, 1, 2);
-            ran(x, "it isn't spare now", x.enter(2, 5, 6, 9), 0, 1, 2);
-            DUE.same("the measure stays", x.measure(0, 0),
-                withSpares(Bench.op(12, 0, 1, rights + 8), LEAVE).measure(0, 0));
-        }
-        int[] code = {
-            Bench.op(12, 0, 1, 3), Bench.op(7, 1, 2, 64), Bench.op(6, 0, 2, 65), LEAVE,
-        };
-        PageMonitor x = withSpares(code);
-        ran(x, "write and read what was spare", x.enter(2, 5, 4, 9), 0, 0, 4);
-        PageMonitor y = withSpares(Bench.op(12, 2, 2, 7), Bench.op(0, 2, 0, 0));
-        ran(y, "one register for page and block: page 0 is no spare one", y.enter(2, 0, 0, 9), 0, 1, 2);
-        PageMonitor z = withSpares(Bench.op(12, 1, 1, 7), Bench.op(0, 1, 0, 0));
-        ran(z, "one register for page and block 5", z.enter(2, 0, 5, 9), 0, 0, 2);
-    }
-
-    private static void spareIsRefused() {
-        int[][] pagesAndBlocks = {
-            {-1, 7}, {20, 7}, {LOWEST, 7}, {HIGHEST, 7}, {0, 7}, {1, 7}, {2, 7}, {3, 7}, {4, 7}, {10, 7},
-            {11, 7}, {12, 7}, {5, -1}, {5, 32}, {5, LOWEST}, {5, HIGHEST}, {5, 8}, {5, 31}, {5, 0}, {5, 1}, {5, 2}, {5, 3},
-        };
-        PageMonitor x = withSpares(Bench.op(12, 0, 1, 7), LEAVE);
-        for (int[] w : pagesAndBlocks) {
-            ran(x, "page " + w[0] + " at block " + w[1], x.enter(2, w[0], w[1], 9), 0, 1, 2);
-        }
-        DUE.same("5 is spare still", x.told(5, 0), 5);
-        DUE.same("11 is spare still", x.told(11, 0), 5);
-        for (int i : new int[] {0, 8, -8}) {
-            PageMonitor y = withSpares(Bench.op(12, 0, 1, i), LEAVE);
-            ran(y, "rights 0 by i " + i, y.enter(2, 5, 7, 9), 0, 1, 2);
-            DUE.same("it is spare still", y.told(5, 0), 5);
-        }
-        PageMonitor z = withSpares(Bench.op(12, 0, 1, -1), LEAVE);
-        ran(z, "rights 7 by i -1", z.enter(2, 5, 7, 9), 0, 0, 2);
-    }
-
-    private static void dataBecomesSpare() {
-        PageMonitor x = withSpares(Bench.op(13, 0, 1, 0), LEAVE);
-        for (int block : new int[] {-1, 32, LOWEST, HIGHEST, 2, 3, 4, 7, 8, 31}) {
-            ran(x, "no data at block " + block, x.enter(2, 0, block, 9), 0, -1, 2);
-        }
-        ran(x, "data at block 1", x.enter(2, 0, 1, 9), 0, 4, 2);
-        DUE.same("it is spare", x.told(4, 0), 5);
-        DUE.same("of its space", x.told(4, 1), 0);
-        ran(x, "the entry is empty", x.enter(2, 0, 1, 9), 0, -1, 2);
-        DUE.same("a spare page can be removed", x.remove(4), 0);
-
-        int[] code = {
-            Bench.op(13, 0, 1, 0), Bench.op(12, 0, 1, 1), Bench.op(6, 2, 3, 16), Bench.op(6, 3, 3, 31),
-            Bench.op(2, 2, 3, 0), Bench.op(0, 2, 0, 0),
-        };
-        PageMonitor y = withSpares(code);
-        ran(y, "data that was spare between has words 0", y.enter(2, 0, 1, 9), 0, 0, 6);
-        DUE.same("data again", y.told(4, 0), 4);
-        PageMonitor z = withSpares(Bench.op(13, 1, 1, 0), Bench.op(6, 0, 2, 16), LEAVE);
-        ran(z, "what is spare is not read", z.enter(2, 0, 1, 9), 9, 2, 2);
-        DUE.same("what was done before the fault stays", z.told(4, 0), 5);
-    }
-
-    private static void codeThatGoesAway() {
-        PageMonitor x = Bench.ready(Bench.op(13, 0, 1, 0), LEAVE);
-        ran(x, "the code's own page", x.enter(2, 0, 0, 9), 9, 1, 2);
-        DUE.same("it is spare", x.told(3, 0), 5);
-        ran(x, "nothing to do any more", x.enter(2, 0, 0, 9), 9, 1, 1);
+    /** Promise 17: "How many instructions that did": the run of which result() tells, none refused. */
+    private static void promise17RefusedRuns() {
+        PageMonitor x = withAnotherThread();
+        DUE.ran(x, "left", x.enter(2, 30, 3, 2000), 0, 33, 2);
+        DUE.ran(x, "refused", x.enter(2, 0, 0, 2001), 1, 33, 2);
+        DUE.ran(x, "faulted", x.enter(4, 0, 0, 2000), 9, 4, 3);
+        DUE.ran(x, "refused", x.resume(4, 1), 6, 4, 3);
     }
 }
