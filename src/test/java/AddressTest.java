@@ -182,7 +182,8 @@ public final class AddressTest {
         for (int rights = 1; rights <= 7; rights++) {
             PageMonitor loads = rightsAt1(rights, LOAD);
             boolean may = rights % 2 == 1;
-            DUE.ran(loads, "read with rights " + rights, loads.enter(2, 0, 21, 9), may ? 0 : 9, may ? 55 : 2, may ? 2 : 1);
+            DUE.ran(loads, "read with rights " + rights, loads.enter(2, 0, 21, 9), may ? 0 : 9, may ? 55 : 2,
+                may ? 2 : 1);
             PageMonitor saves = rightsAt1(rights, SAVE);
             may = rights == 2 || rights == 3 || rights == 6 || rights == 7;
             DUE.ran(saves, "write with rights " + rights, saves.enter(2, 66, 21, 9), may ? 0 : 9, may ? 66 : 3,

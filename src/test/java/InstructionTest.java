@@ -80,7 +80,10 @@ public final class InstructionTest {
         return answers;
     }
 
-    /** Promise 14: "tells op w & 15, a w >> 4 & 3, b w >> 6 & 3, i w >> 8". Every a and b. */
+    /**
+     * Promise 14: "A THREAD runs instructions, with registers 0 to 3"; "tells op w & 15, a w >> 4 & 3,
+     * b w >> 6 & 3, i w >> 8". Every a and b.
+     */
     private static void fields() {
         for (int a = 0; a < 4; a++) {
             for (int b = 0; b < 4; b++) {
@@ -89,8 +92,8 @@ public final class InstructionTest {
                 DUE.words("6 with a " + a + ", b " + b, registersAfter(6 | a << 4 | b << 6, 20, 17, 22, 29), want);
                 int[] more = {20, 17, 22, 29};
                 more[a] = 500 + more[b] + 1 - 16;
-                DUE.words("6 with a " + a + ", b " + b + ", i 1", registersAfter(6 | a << 4 | b << 6 | 1 << 8, 20, 17, 22, 29),
-                    more);
+                DUE.words("6 with a " + a + ", b " + b + ", i 1",
+                    registersAfter(6 | a << 4 | b << 6 | 1 << 8, 20, 17, 22, 29), more);
             }
         }
     }
@@ -253,8 +256,8 @@ public final class InstructionTest {
             for (int op = 2; op <= 5; op++) {
                 int[] want = {6, 6, 6, 6};
                 want[a] = new int[] {12, 0, 36, 6}[op - 2];
-                DUE.words("op " + op + " of register " + a + " twice", registersAfter(Bench.op(op, a, a, 0), 6, 6, 6, 6),
-                    want);
+                DUE.words("op " + op + " of register " + a + " twice",
+                    registersAfter(Bench.op(op, a, a, 0), 6, 6, 6, 6), want);
             }
         }
     }
@@ -296,7 +299,9 @@ public final class InstructionTest {
     /** Promise 14: "the word at rb + i": the sum wraps around, and no address is near where it does. */
     private static void loadsOfSums() {
         for (int op = 6; op <= 7; op++) {
-            int[][] sums = {{HIGHEST, 1}, {HIGHEST, MOST_I}, {LOWEST, -1}, {LOWEST, LEAST_I}, {-1, 0}, {0, -1}, {511, 1}};
+            int[][] sums = {
+                {HIGHEST, 1}, {HIGHEST, MOST_I}, {LOWEST, -1}, {LOWEST, LEAST_I}, {-1, 0}, {0, -1}, {511, 1},
+            };
             for (int[] w : sums) {
                 PageMonitor x = Bench.building(Bench.op(op, 0, 1, w[1]), LEAVE);
                 x.table(4, 0, 3);
@@ -566,7 +571,8 @@ public final class InstructionTest {
             DUE.ran(x, "no data at block " + block, x.enter(2, 0, block, 9), 0, PageMonitor.NONE, 2);
         }
         DUE.told(x, 0, 1, -1, 1, 6);
-        PageMonitor y = withSpares(Bench.op(13, 3, 0, 0), Bench.op(6, 2, 1, 0), Bench.op(7, 3, 1, 0), Bench.op(0, 2, 0, 0));
+        PageMonitor y = withSpares(Bench.op(13, 3, 0, 0), Bench.op(6, 2, 1, 0), Bench.op(7, 3, 1, 0),
+            Bench.op(0, 2, 0, 0));
         DUE.ran(y, "a frame's entry isn't made empty", y.enter(2, 2, 32, 9), 0, 5, 4);
         DUE.same("the frame is written still", y.peek(0, 0), -1);
     }

@@ -44,7 +44,10 @@ public final class MeasureTest {
         return x;
     }
 
-    /** Promise 19: "when it is finished 4": the least that is told, of a space that has nothing. */
+    /**
+     * Promise 19: "when it is finished 4": the least that is told, of a space that has nothing; "HASH of
+     * words, a multiple of 16 of them: the digest of eight words of SHA-256 of their bytes".
+     */
     private static void emptySpace() {
         for (int space : new int[] {0, 19}) {
             PageMonitor x = new PageMonitor();
@@ -340,7 +343,7 @@ public final class MeasureTest {
             DUE.thrown("measure(" + page + ", 7)", NOT_MEASURED, () -> x.measure(page, 7));
         }
         x.remove(World.BARE);
-        for (int page : new int[] {World.STOPPED_TABLE, World.STOPPED_THREAD, World.STOPPED_DATA, World.STOPPED_SPARE}) {
+        for (int page = World.STOPPED_TABLE; page <= World.STOPPED_SPARE; page++) {
             x.remove(page);
         }
         DUE.thrown("before it is removed", null, () -> x.measure(World.STOPPED, 0));

@@ -9,6 +9,7 @@ public final class RoomTest {
     public static void main(String[] args) {
         newObjectsAreSmall();
         callsMakeNothing();
+        theLastCall();
         DUE.end();
     }
 
@@ -45,5 +46,23 @@ public final class RoomTest {
         }
         long bytes = made() - before;
         DUE.same("461 calls made " + bytes + " bytes, at most 100000", bytes <= 100000 ? 1 : 0, 1);
+    }
+
+    /**
+     * Promises 15 to 17: "An object is used for at most 512 calls after it has been made": the last of them
+     * answers as the first did, when all before were as dear as can be.
+     */
+    private static void theLastCall() {
+        PageMonitor x = Bench.building(Bench.op(10, 2, 1, 0), Bench.op(2, 3, 0, 0), Bench.op(8, 0, 0, -3));
+        x.share(0, 1, 3, 0);
+        x.share(0, 2, 3, 1);
+        x.finish(0);
+        int made = 32 + 4 + 3;
+        DUE.same("enter", x.enter(2, 1, 16, 2000), 8);
+        for (int call = made + 2; call < 511; call++) {
+            DUE.same("call " + call, x.resume(2, 2000), 8);
+        }
+        DUE.same("call 511", x.steps(), 2000);
+        DUE.same("call 512", x.resume(2, 2000), 8);
     }
 }

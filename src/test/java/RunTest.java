@@ -91,7 +91,7 @@ public final class RunTest {
         DUE.ran(y, "enter() of one that has faulted", y.enter(2, 0, 0, 9), 0, 0, 2);
     }
 
-    /** Promise 14: "begins at its entry", whatever it did before; each thread at its own. */
+    /** Promise 14: "begins at its entry", whatever it did before; "threads have an ENTRY", each its own. */
     private static void promise14BeginsAtItsEntry() {
         int[] code = new int[16];
         for (int i = 0; i < 16; i += 2) {
@@ -293,7 +293,10 @@ public final class RunTest {
         DUE.ran(x, "the last step", x.resume(2, 1), 0, 1, 1);
     }
 
-    /** Promise 15: "its registers and place are kept" whatever else the system asks for between. */
+    /**
+     * Promise 15: "and perhaps are ENTERED, with what they have kept", whatever else the system asks for
+     * between.
+     */
     private static void promise15OtherCallsBetween() {
         PageMonitor x = Bench.building(MORE, Bench.op(6, 2, 0, 0), Bench.op(2, 0, 2, 0), LEAVE);
         x.share(0, 1, 1, 2);
@@ -314,7 +317,10 @@ public final class RunTest {
         DUE.ran(x, "resume", x.resume(2, 9), 0, 516, 3);
     }
 
-    /** Promises 14 and 15: "It is INTERRUPTED behind so many instructions as are told". */
+    /**
+     * Promises 14 and 15: "8 it was interrupted"; "It is INTERRUPTED behind so many instructions as are told:
+     * its registers and place are kept, it is entered; the result is 0 then."
+     */
     private static void interrupted() {
         for (int steps = 1; steps <= 5; steps++) {
             PageMonitor x = Bench.building(Bench.op(7, 0, 0, 0), MORE, Bench.op(7, 0, 0, 0), MORE,
@@ -348,7 +354,10 @@ public final class RunTest {
         DUE.ran(x, "faults with its only step", x.resume(2, 1), 9, 4, 1);
     }
 
-    /** Promise 16: "What the last enter() or resume() that answered 0, 8 or 9 came to." */
+    /**
+     * Promise 16: "What the last enter() or resume() that answered 0, 8 or 9 came to."; "A fault's number, or
+     * what it left with, is the RESULT."
+     */
     private static void promise16OfTheLastRun() {
         PageMonitor x = Bench.building(MORE, LEAVE, Bench.op(14, 0, 0, 0));
         x.thread(4, 0, 2);

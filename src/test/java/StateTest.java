@@ -187,7 +187,10 @@ public final class StateTest {
         DUE.same("remove(19), stopped before it was finished", x.remove(19), 0);
     }
 
-    /** Promise 13: "a space besides when no page belongs to it (7)", and 4 comes before 7. */
+    /**
+     * Promise 13: "a space besides when no page belongs to it (7)", and 4 comes before 7; "7 a space to be
+     * removed has pages still."
+     */
     private static void promise13SpaceWithPages() {
         PageMonitor x = World.make();
         DUE.same("remove(0), built, with pages", x.remove(World.BUILT), 4);

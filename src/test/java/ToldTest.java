@@ -22,7 +22,10 @@ public final class ToldTest {
         DUE.end();
     }
 
-    /** Promise 18: "its kind (what = 0)"; "A page's KIND: 0 FREE, 1 a SPACE, 2 a THREAD, 3 a TABLE, 4 DATA". */
+    /**
+     * Promise 18: "its kind (what = 0)"; "A page's KIND: 0 FREE, 1 a SPACE, 2 a THREAD, 3 a TABLE, 4 DATA,
+     * 5 a SPARE one".
+     */
     private static void everyKind() {
         PageMonitor x = World.make();
         for (int page = 0; page < 20; page++) {
@@ -40,7 +43,10 @@ public final class ToldTest {
         DUE.same("a spare page 17", y.told(17, 0), 5);
     }
 
-    /** Promise 18: "the space to which it belongs, NONE if to none (1)"; "all but free ones and spaces belong". */
+    /**
+     * Promise 18: "the space to which it belongs, NONE if to none (1)"; "all but free ones and spaces belong
+     * to a space."
+     */
     private static void belongs() {
         PageMonitor x = World.make();
         for (int page = 0; page < 20; page++) {

@@ -117,7 +117,10 @@ public final class VoucherTest {
         }
     }
 
-    /** Promises 2 and 14: "is the hash of the key (eight words), the measure, those words, and eight words 0." */
+    /**
+     * Promises 2 and 14: "A VOUCHER of a measure for eight words is the hash of the key (eight words), the
+     * measure, those words, and eight words 0."
+     */
     private static void vouchingWithEveryKey() {
         int[][] keys = {
             new int[8], {-1, -1, -1, -1, -1, -1, -1, -1}, {1, 0, 0, 0, 0, 0, 0, 0}, {0, 0, 0, 0, 0, 0, 0, 1},
@@ -310,7 +313,10 @@ public final class VoucherTest {
         return words;
     }
 
-    /** Promise 14: "10 ra is 1 if the eight words from rb + 16 on are the voucher", "else 0". */
+    /**
+     * Promise 14: "10 ra is 1 if the eight words from rb + 16 on are the voucher of the measure in the eight
+     * words from rb on for the eight words from rb + 8 on, else 0."
+     */
     private static void comparing() {
         int[] measure = {3, 1, 4, 1, 5, 9, 2, 6};
         int[] said = {-1, -2, -3, -4, 5, 6, 7, 8};
@@ -442,7 +448,8 @@ public final class VoucherTest {
         y.space(10);
         y.finish(10);
         y.finish(0);
-        int[] told = Bench.rows(Bench.row(1, 0), Bench.row(2, 0, 4), Bench.row(Bench.op(11, 0, 0, 3), LEAVE), Bench.row(4));
+        int[] told = Bench.rows(Bench.row(1, 0), Bench.row(2, 0, 4), Bench.row(Bench.op(11, 0, 0, 3), LEAVE),
+            Bench.row(4));
         DUE.ran(y, "its own space's measure", y.enter(2, 0, 0, 2), 0, Bench.hash(told)[3], 2);
     }
 }
