@@ -27,6 +27,14 @@ final class Due {
         }
     }
 
+    void text(String call, String got, String want) {
+        asked++;
+        if (!got.equals(want)) {
+            wrong++;
+            System.out.println(test + ": " + call + " answered " + got + ", due is " + want);
+        }
+    }
+
     /** Two tellings of what calls answered, too long to print. */
     void alike(String call, String got, String want) {
         same(call + " (1: as if it had not been made)", got.equals(want) ? 1 : 0, 1);
